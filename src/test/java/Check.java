@@ -1,0 +1,77 @@
+/** What every test of the project uses: answers counted, families laid. */
+final class Check {
+    static final int BAD = DutyOnLeft.BAD, NO = DutyOnLeft.NO, FULL = DutyOnLeft.FULL, NONE = DutyOnLeft.NONE;
+    private static int passed = 0;
+    private static int failed = 0;
+
+    private Check() {
+    }
+
+    static void due(String call, int want, int got) {
+        if (got == want) {
+            passed++;
+        } else {
+            failed++;
+            System.out.println(call + " answered " + got + ", due is " + want);
+        }
+    }
+
+    static void written(DutyOnLeft x, String text) {
+        x.wipe();
+        for (int k = 0; k < text.length(); k++) {
+            due("write of " + text.charAt(k), k + 1, x.write(text.charAt(k)));
+        }
+    }
+
+    static int faultOf(String text) {
+        DutyOnLeft x = new DutyOnLeft();
+        written(x, text);
+        return x.fault();
+    }
+
+    static DutyOnLeft laid(String text) {
+        DutyOnLeft x = new DutyOnLeft();
+        written(x, text);
+        due("fault of " + text, NONE, x.fault());
+        if (x.lay() < 1) {
+            due("lay of " + text, 1, 0);
+        }
+        return x;
+    }
+
+    /** All that can be seen of an object, to tell that nothing changed. */
+    static String seen(DutyOnLeft x) {
+        StringBuilder all = new StringBuilder();
+        for (int k = 0; k <= 10; k++) {
+            all.append(x.count(k)).append(' ');
+        }
+        return all.append(standing(x)).toString();
+    }
+
+    /** The persons and goods as they stand. */
+    static String standing(DutyOnLeft x) {
+        StringBuilder all = new StringBuilder();
+        for (int i = 0; i < 6; i++) {
+            for (int what = 0; what < 5; what++) {
+                all.append(x.person(i, what)).append(' ');
+            }
+        }
+        for (int g = 0; g < 8; g++) {
+            for (int what = 0; what < 5; what++) {
+                all.append(x.good(g, what)).append(' ');
+            }
+        }
+        return all.toString();
+    }
+
+    static void same(String call, String want, String got) {
+        due(call + (want.equals(got) ? "" : ": was " + want + ", is " + got), 0, want.equals(got) ? 0 : 1);
+    }
+
+    static void end(String test) {
+        System.out.println(test + ": " + passed + " passed, " + failed + " failed");
+        if (failed > 0) {
+            System.exit(1);
+        }
+    }
+}
