@@ -723,8 +723,9 @@ public final class DutyOnLeft {
             return g >= 0 && g < goods ? Rows.get(owners, g) : NONE;
         }
 
+        // Looks at the row itself: most of what is reckoned comes by here.
         boolean lies(int g, int i) {
-            return ownerOf(g) == i && !isPacked(g);
+            return g >= 0 && g < goods && g < owners.length && owners[g] == i && (packed >> g & 1) == 0;
         }
 
         // The GOODS of i as bits, packed or not; of NONE those that are nobody's.
@@ -826,7 +827,7 @@ public final class DutyOnLeft {
         }
 
         static int owed(Family family, Standing at, int i) {
-            return onLeft(family, i, left(family, at, i));
+            return onLeft(family, i, goodsLeft(family, at, i) + loveLeft(family, i, at.here));
         }
 
         static int owedWith(Family family, Standing at, int i, int j) {
@@ -925,23 +926,29 @@ public final class DutyOnLeft {
         }
 
         void put(Standing from) {
-            if (next < 0 || next >= rows.length) {
+            Standing row = row(next);
+            if (row == null) {
                 return;
             }
-            rows[next].copy(from);
+            row.copy(from);
             next = next + 1 < rows.length ? next + 1 : 0;
             held = Math.min(held + 1, rows.length);
         }
 
         boolean take(Standing into) {
             int last = next > 0 ? next - 1 : rows.length - 1;
-            if (held < 1 || last < 0 || last >= rows.length) {
+            Standing row = row(last);
+            if (held < 1 || row == null) {
                 return false;
             }
-            into.copy(rows[last]);
+            into.copy(row);
             next = last;
             held--;
             return true;
+        }
+
+        private Standing row(int at) {
+            return at >= 0 && at < rows.length ? rows[at] : null;
         }
     }
 

@@ -82,6 +82,9 @@ final class FamilyTest {
         Check.due("the family stands", 5, x.count(0));
         Check.due("write behind wipe", 1, x.write('t'));
         Check.due("fault behind wipe", 0, x.fault());
+        Check.written(x, "p0,50,9;");
+        Check.written(x, "p0,50,9");
+        Check.due("what was wiped does not end an item", 0, x.fault());
     }
 
     private static void faults(int want, String[] texts) {

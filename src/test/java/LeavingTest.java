@@ -155,6 +155,13 @@ final class LeavingTest {
         DutyOnLeft y = Check.laid("p3,99,0;p0,99,0;p0,99,0;p3,99,0;");
         Check.due("two grandmothers behind", 0, y.leaveBoth(1, 2));
         Check.due("both grandmothers", 0, y.leaveBoth(0, 3));
+        DutyOnLeft w = Check.laid("p0,9,0;p0,7,0;g0,0,9,0;g0,1,7,0;");
+        w.keep();
+        Check.due("all their coins", 16, w.leaveBoth(0, 1));
+        w.back();
+        w.give(0, 1);
+        Check.due("too much for the second", NO, w.leaveBoth(0, 1));
+        Check.due("too much for the first", NO, w.leaveBoth(1, 0));
         DutyOnLeft z = Check.laid("p0,99,0;p3,99,0;p0,99,0;");
         Check.due("a grandmother alone behind", NO, z.leaveBoth(0, 2));
         Check.due("a PLAIN one alone behind", 0, z.leaveBoth(0, 1));

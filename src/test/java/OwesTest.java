@@ -106,6 +106,9 @@ final class OwesTest {
         x.give(3, 1);
         Check.due("only his own", 33, x.packing(0, 0));
         Check.due("of the other one", 8, x.packing(1, 0));
+        DutyOnLeft w = Check.laid("p0,0,9;g2,0,9,0;g0,0,1,0;g2,0,9,0;");
+        Check.due("no GRAVES", 2, w.packing(0, 0));
+        Check.due("which count", 54, w.packing(0, 1));
         DutyOnLeft y = Check.laid("p4,0,5;g0,0,9,5;g0,0,10,6;");
         Check.due("no heavier than his STRENGTH", 1, y.packing(0, 0));
         Check.due("the third part", 3, y.packing(0, 1));
