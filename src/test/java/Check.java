@@ -1,8 +1,11 @@
+import java.util.function.IntSupplier;
+
 /** What every test of the project uses: answers counted, families laid. */
 final class Check {
     static final int BAD = DutyOnLeft.BAD, NO = DutyOnLeft.NO, FULL = DutyOnLeft.FULL, NONE = DutyOnLeft.NONE;
     private static int passed = 0;
     private static int failed = 0;
+    private static String about = "";
 
     private Check() {
     }
@@ -12,8 +15,17 @@ final class Check {
             passed++;
         } else {
             failed++;
-            System.out.println(call + " answered " + got + ", due is " + want);
+            System.out.println(about + call + " answered " + got + ", due is " + want);
         }
+    }
+
+    /** What the checks from now on are about: told ahead of those that fail. */
+    static void about(String what) {
+        about = what.isEmpty() ? "" : "\"" + what + "\": ";
+    }
+
+    static int done() {
+        return passed + failed;
     }
 
     static void written(DutyOnLeft x, String text) {
@@ -37,6 +49,25 @@ final class Check {
             due("lay of " + text, 1, 0);
         }
         return x;
+    }
+
+    /** A call that is refused: what it answers, and that nothing changes. */
+    static void refused(String call, int want, DutyOnLeft x, IntSupplier made) {
+        String before = whole(x);
+        due(call, want, made.getAsInt());
+        same(call + " changes nothing", before, whole(x));
+    }
+
+    /** Like seen, with what else is told of an object. */
+    static String whole(DutyOnLeft x) {
+        StringBuilder all = new StringBuilder(seen(x)).append(x.fault()).append(' ').append(x.stuck());
+        for (int i = 0; i < 6; i++) {
+            all.append(' ').append(x.isFalse(i)).append(' ').append(x.owes(i));
+            for (int j = 0; j < 6; j++) {
+                all.append(' ').append(x.love(i, j));
+            }
+        }
+        return all.toString();
     }
 
     /** All that can be seen of an object, to tell that nothing changed. */
