@@ -65,9 +65,9 @@ final class ModelTest {
     }
 
     private static void call(String at, DutyOnLeft x, Model m, int which) {
-        int i = near(5);
-        int j = near(5);
-        int g = near(7);
+        int i = near(6);
+        int j = near(6);
+        int g = near(8);
         int what = near(2);
         int n = 1 + near(4);
         int z = below(20) == 0 ? 9998 + below(4) : near(10000);
